@@ -189,13 +189,13 @@ public final class LotHouse {
             return NONE;
         }
         int most = 0;
-        int least = Integer.MAX_VALUE;
+        int least = NONE;
         for (int kind = 0; kind < land.kinds; kind++) {
             int persons = land.personsOf(kind);
             if (persons > 0) {
                 int share = land.total(now.looks, kind) * 1000 / persons;
                 most = Math.max(most, share);
-                least = Math.min(least, share);
+                least = least == NONE ? share : Math.min(least, share);
             }
         }
         return most - least;
@@ -1139,7 +1139,7 @@ public final class LotHouse {
         final int[] scores = new int[MOST_PERSONS];
         final int[] ranked = new int[MOST_PERSONS];
 
-        private final Land land;
+        final Land land;
         private final int[] rates = new int[SIGN_BITS];
         private final int[] chosen = new int[MOST_PERSONS];
         private final int[] left = new int[MOST_PERSONS];

@@ -110,6 +110,10 @@ public final class PromiseTest {
         due("feed beyond 1,600", x.feed(0, 0, 0, 0, 0), NONE);
         due("about(4)", x.about(4), 1600);
         due("land() of blanks alone", x.land(), 0);
+        fault(2, "^" + ";".repeat(1600));
+        fault(1, " ".repeat(1599) + "^A");
+        fault(2, " ".repeat(1599) + "^a");
+        fault(2, " ".repeat(1596) + "kind^");
         x = new LotHouse();
         // "kind", " ab;", and a byte above 127 as the highest of the third number
         due("feed", x.feed(0x6b696e64, 0x2061623b, 0xe9202020, 0x20202020, 0x20202020), 20);
