@@ -21,7 +21,6 @@ public final class LotHouse {
     private static final int ALL_DEPTH = 10;
     private static final int WRONG_COIN = 10;
     private static final int SIGN_BITS = 4;
-    private static final int SIGN_ROWS = 16;
     private static final int OUT_OF_HEARING = 99;
     private static final int MOST_SHARE = 10;
     private static final int BEST_LOOKS = 6;
@@ -76,7 +75,9 @@ public final class LotHouse {
         reader.read(land);
         tape.length = 0;
         now.begin();
-        Arrays.fill(kept, false);
+        for (int box = 0; box < BOXES; box++) {
+            kept[box] = false;
+        }
         return land.persons;
     }
 
@@ -855,18 +856,19 @@ public final class LotHouse {
             return sort() == Tokens.NAME;
         }
 
-        /** Nothing is taken at the end or where no TOKEN is: at never comes behind the last one. */
+        /** Nothing is taken at the end or where no TOKEN is: at never comes behind the last one's row. */
         private int sort() {
-            return tokens.sort[at];
+            return at < tokens.sort.length ? tokens.sort[at] : Tokens.END;
         }
 
         private long value() {
-            return tokens.value[at];
+            return at < tokens.value.length ? tokens.value[at] : 0;
         }
 
         private boolean fail(int itsFault) {
-            fault = tokens.sort[at] == Tokens.NO_TOKEN ? NO_TOKEN : itsFault;
-            place = tokens.place[at];
+            boolean none = at < tokens.sort.length && tokens.sort[at] == Tokens.NO_TOKEN;
+            fault = none ? NO_TOKEN : itsFault;
+            place = at < tokens.place.length ? tokens.place[at] : MOST_BYTES;
             return false;
         }
     }

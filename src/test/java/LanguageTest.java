@@ -120,6 +120,10 @@ public final class LanguageTest {
         while (library.find()) {
             holds(listed.contains(library.group()), "4: " + library.group());
         }
+        Matcher flags = Pattern.compile("\\bboolean\\[\\] (\\w+)").matcher(code);
+        while (flags.find()) {
+            holds(!code.contains("Arrays.fill(" + flags.group(1) + ","), "4: Arrays.fill of no numbers: " + flags.group(1));
+        }
         holds(code.chars().allMatch(c -> c < 128), "4: signs 1 to 127");
     }
 
