@@ -92,8 +92,10 @@ public final class TextEdgeTest {
         Texts.feed(x, " ".repeat(1600 - ONE.length()) + ONE);
         due("about(4)", x.about(4), 1600);
         due("land()", x.land(), 1);
-        // as many TOKENS as bytes: the last one is still read
-        fault(2, "kind k;ways k (((((((1)))))))^" + ")".repeat(1570));
+        // as many TOKENS as bytes
+        fault(2, "^" + ";".repeat(1600));
+        fault(2, "^" + "(".repeat(1599) + ".");
+        fault(2, "kind k;ways k (((((((1)))))))^" + ")".repeat(1571));
         fault(2, " ".repeat(1599) + "^;");
         fault(1, " ".repeat(1599) + "^.");
         fault(2, " ".repeat(1599) + "^7");
