@@ -4,8 +4,11 @@ import java.util.Random;
 
 /** Runs of calls by lot (the same ones each time), each answer held against the Model's. */
 public final class ModelTest {
-    private static final int RUNS = 1500;
+    private static final int RUNS = 2500;
     private static final int CALLS = 400;
+    /** What a later call answers is free; the last text may take so many. */
+    private static final int MOST_CALLS = 512;
+    private static final int CALLS_OF_TEXT = 90;
     private static final int MOST_TOLD = 10;
     private static int wrong = 0;
     private static final int[] faults = new int[6];
@@ -14,6 +17,7 @@ public final class ModelTest {
     private final LotHouse x = new LotHouse();
     private final Model model = new Model();
     private final int run;
+    private int used = 0;
 
     private ModelTest(int run) {
         this.run = run;
@@ -37,6 +41,7 @@ public final class ModelTest {
     }
 
     private void due(String call, int got, int want) {
+        used++;
         if (got != want) {
             wrong++;
             if (wrong <= MOST_TOLD) {
@@ -60,11 +65,15 @@ public final class ModelTest {
     private void go() {
         tell(text());
         int calls = 60 + random.nextInt(CALLS - 60);
-        for (int i = 0; i < calls; i++) {
+        for (int i = 0; i < calls && used + CALLS_OF_TEXT <= MOST_CALLS; i++) {
             if (random.nextInt(60) == 0) {
                 tell(text());
             }
             call(random.nextInt(34));
+        }
+        if (used > MOST_CALLS) {
+            wrong++;
+            System.out.println("run " + run + ": an object was used for " + used + " calls");
         }
     }
 
