@@ -2,6 +2,7 @@ import java.lang.management.ManagementFactory;
 import java.lang.reflect.Array;
 import java.lang.reflect.Field;
 import java.lang.reflect.Modifier;
+import java.nio.charset.StandardCharsets;
 import java.util.ArrayDeque;
 import java.util.Collections;
 import java.util.Deque;
@@ -14,12 +15,15 @@ public final class RoomTest {
     private static final long MOST_ELEMENTS = 7300000;
     private static final int MOST_CALLS = 512;
     private static final int CALLS = 29;
+    private static final byte[] LINES = (Due.chain(4) + "ways k (earns + last) * belief / 10 - year;depth 7 wrong 3;"
+        + "teach found 1 clean 2 heard 3 letter 4;" + " ".repeat(20)).getBytes(StandardCharsets.ISO_8859_1);
     /** Below what a single object in every one of 512 calls would take. */
     private static final long MOST_BYTES = 2048;
 
     public static void main(String[] args) throws Exception {
         Due.sentence("All calls of one run live in ONE room");
         newObjects();
+        Due.due("PERSONS of the text that land() reads", tell(new LotHouse()), 4 + LotHouse.NONE);
         calls();
         Due.finish();
     }
@@ -91,11 +95,11 @@ public final class RoomTest {
         switch (which) {
             case 0: return x.feed(i, i, i, i, i);
             case 1: return x.end(90 - i);
-            case 2: return x.land();
+            case 2: return tell(x);
             case 3: return x.fault(i & 1);
             case 4: return x.person(i % 9, i % 6);
             case 5: return x.score(i % 9);
-            case 6: return x.year(true, 2, 2, 2);
+            case 6: return x.back(0) + x.year(true, 2, 2, 2);
             case 7: return x.sum(1 + (i & 1), i % 6);
             case 8: return x.estimate(1, i & 1);
             case 9: return x.blind();
@@ -118,6 +122,23 @@ public final class RoomTest {
             case 26: return x.seed(i);
             case 27: return x.about(i & 7);
             default: return x.year(true, -1, 20, i);
+        }
+    }
+
+    /** A text with each sort of line, whole and then with a FAULT at its end. */
+    private static int tell(LotHouse x) {
+        x.end(0);
+        feedLines(x);
+        int persons = x.land();
+        feedLines(x);
+        x.feed(-1, -1, -1, -1, -1);
+        return persons + x.land();
+    }
+
+    private static void feedLines(LotHouse x) {
+        for (int i = 0; i + 20 <= LINES.length; i += 20) {
+            x.feed(Texts.number(LINES, i), Texts.number(LINES, i + 4), Texts.number(LINES, i + 8),
+                Texts.number(LINES, i + 12), Texts.number(LINES, i + 16));
         }
     }
 }
